@@ -75,7 +75,7 @@ public final class OutsideTest {
         rig.host.run(5);
         rig.control(Rig.ATP, 0).register(17, 8).place(128, Rig.S).control(Rig.STATUS, 0).step(Asm.ECALL);
         due("it is off", rig.host.count(8), 1);
-        rig.words(Rig.MEMORY - 20, 1, 2, 3, 4, 5);
+        rig.words(Rig.MEMORY - 20, 1, 2, 3, 4, 5).control(Rig.HTVAL, 9).control(Rig.HTINST, 9);
         rig.host.begin();
         asAtFirst("begun:", rig.host);
         due("it is on again", rig.host.run(3), 3);
@@ -124,6 +124,7 @@ public final class OutsideTest {
             sum = 31 * sum + host.word(address);
         }
         due("sum(1, 2)", host.sum(1, 2), sum);
+        due("sum of an empty frame", host.sum(0, 1), -1174962175);
         due("sum(63, 1)", host.sum(63, 1), host.sum(0, 1));
         due("sum(0, 1) has not what is behind", host.sum(0, 1), host.sum(5, 1));
         int[][] bad = {{-1, 1}, {LEAST, 1}, {0, 0}, {0, -1}, {0, LEAST}, {64, 1}, {63, 2}, {0, 65}, {1, 64}, {MOST, MOST},

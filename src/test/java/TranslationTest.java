@@ -157,6 +157,7 @@ public final class TranslationTest {
         stores("W without R", oneStage(Rig.S, leaf(V | W | A | D)), 15);
         loads("W without R, MXR", oneStage(Rig.S, leaf(V | W | X | A | D)).control(Rig.STATUS, MXR), 13);
         loads("the second is no leaf", oneStage(Rig.S, leaf(V)), 13);
+        loads("there is no third", oneStage(Rig.S, leaf(V)).words(FRAME * 4096 + 20, leaf(ALL)), 13);
         for (int flag : new int[] {USER, A, D}) {
             Rig rig = oneStage(Rig.S, leaf(ALL));
             rig.words(S_ROOT * 4096 + 4, entry(S_TABLE, V | flag)).register(6, PAGE + 0x400000);
@@ -232,6 +233,7 @@ public final class TranslationTest {
         loads("X in VS, MXR of S", guest(Rig.VS, leaf(V | X | A), 0).control(Rig.STATUS, MXR), FINE);
         loads("X in VS, MXR of VS", guest(Rig.VS, leaf(V | X | A), 0).control(Rig.VSTATUS, MXR), FINE);
         loads("outside", guest(Rig.VS, entry(64, ALL), 0), 5);
+        loads("there is no third in VS", guest(Rig.VS, leaf(V), 0).words(FRAME * 4096 + 20, leaf(ALL)), 13);
         loads("by the S tables never", guest(Rig.VS, leaf(ALL), 0).control(Rig.ATP, ON | 63), FINE);
     }
 
@@ -256,6 +258,7 @@ public final class TranslationTest {
             fetches("second without X", rig, 20);
             secondFault("second without X", rig, PAGE, false);
         }
+        loads("there is no third, second", guest(Rig.VS, 0, leaf(V)).words(FRAME * 4096 + 20, leaf(ALL | USER)), 21);
         stores("second without W", guest(Rig.VS, 0, leaf(ALL & ~W | USER)), 23);
         loads("second without A", guest(Rig.VS, 0, leaf(ALL & ~A | USER)), 21);
         loads("second, SUM does nothing", guest(Rig.VS, 0, leaf(ALL)).control(Rig.STATUS, SUM).control(Rig.VSTATUS, SUM), 21);
