@@ -1,4 +1,4 @@
-/** A new machine with hands to set it up. */
+/** A new machine with hands to set it up. It lives for 512 calls, as the document has it. */
 final class Rig {
     static final int U = 0;
     static final int S = 1;
@@ -6,6 +6,7 @@ final class Rig {
     static final int VS = 3;
 
     static final int MEMORY = 262144;
+    static final int MOST_CALLS = 512;
 
     static final int STATUS = 0x100;
     static final int IE = 0x104;
@@ -41,66 +42,147 @@ final class Rig {
     static final int[] VS_NUMBERS = {VSTATUS, VIE, VTVEC, VSCRATCH, VEPC, VCAUSE, VTVAL, VIP, VATP};
     static final int[] H_NUMBERS = {HSTATUS, HEDELEG, HIDELEG, HIE, HTVAL, HIP, HVIP, HTINST, HGATP};
 
-    final HyperHost host = new HyperHost();
+    // The bits of STATUS and HSTATUS.
+    static final int IE_BIT = 1 << 1;
+    static final int PIE = 1 << 5;
+    static final int PP = 1 << 8;
+    static final int SUM = 1 << 18;
+    static final int MXR = 1 << 19;
+    static final int GVA = 1 << 6;
+    static final int SPV = 1 << 7;
+    static final int SPVP = 1 << 8;
+    static final int HU = 1 << 9;
+    static final int VTVM = 1 << 20;
+    static final int VTW = 1 << 21;
+    static final int VTSR = 1 << 22;
+    static final int INTERRUPT = 1 << 31;
 
-    /** Puts words to memory; poke takes five at a time, so that the others are put as they were. */
+    /** Where a rig's program stands, and where its traps lead. */
+    static final int AT = 4096;
+    static final int TVEC_AT = 512;
+    static final int VTVEC_AT = 768;
+    /** In CAUSE until there is a trap. */
+    static final int NO_TRAP = -1;
+
+    private final HyperHost host = new HyperHost();
+    private int calls;
+
+    /** A machine whose traps can be told. */
+    static Rig in(int mode) {
+        Rig rig = new Rig().control(TVEC, TVEC_AT).control(VTVEC, VTVEC_AT);
+        return rig.control(CAUSE, NO_TRAP).control(VCAUSE, NO_TRAP).place(AT, mode);
+    }
+
+    static boolean isTime(int number) {
+        return number == TIME || number == TIME_UPPER;
+    }
+
+    /** Whether there is a control register of that number. */
+    static boolean isNumber(int number) {
+        return isAmong(number, S_NUMBERS) || isAmong(number, VS_NUMBERS) || isAmong(number, H_NUMBERS)
+            || isTime(number);
+    }
+
+    private static boolean isAmong(int number, int[] numbers) {
+        for (int one : numbers) {
+            if (one == number) {
+                return true;
+            }
+        }
+        return false;
+    }
+
+    static boolean isVirtual(int mode) {
+        return mode >= VU;
+    }
+
+    HyperHost host() {
+        calls++;
+        if (calls > MOST_CALLS) {
+            throw new IllegalStateException("a test makes more than 512 calls of one object");
+        }
+        return host;
+    }
+
+    private Rig must(boolean done) {
+        if (!done) {
+            throw new IllegalStateException("a test can't set its machine up");
+        }
+        return this;
+    }
+
+    /** Puts words to memory; poke takes five, so that others are put as they were. */
     Rig words(int address, int... words) {
-        for (int i = 0; i < words.length; i++) {
+        for (int i = 0; i < words.length; i += 5) {
             int at = address + 4 * i;
             int from = Math.min(at, MEMORY - 20);
             int[] five = new int[5];
             for (int j = 0; j < 5; j++) {
-                five[j] = host.word(from + 4 * j);
+                int k = i + j - (at - from) / 4;
+                five[j] = k >= i && k < words.length ? words[k] : host().word(from + 4 * j);
             }
-            five[(at - from) / 4] = words[i];
-            host.poke(from, five[0], five[1], five[2], five[3], five[4]);
+            must(host().poke(from, five[0], five[1], five[2], five[3], five[4]) == 0);
         }
         return this;
     }
 
     Rig register(int n, int v) {
-        host.setRegister(n, v);
+        host().setRegister(n, v);
         return this;
     }
 
     Rig control(int number, int v) {
-        host.setControl(number, v);
-        return this;
+        return must(host().setControl(number, v) == 0);
     }
 
     Rig place(int pc, int mode) {
-        host.place(pc, mode);
+        return must(host().place(pc, mode) >= 0);
+    }
+
+    Rig line(boolean on) {
+        host().line(on);
         return this;
+    }
+
+    Rig run(int steps) {
+        return must(host().run(steps) == steps);
     }
 
     /** One step with an instruction at the PC; without translation it stands where the PC says. */
     Rig step(int word) {
-        words(host.count(1), word);
-        host.run(1);
-        return this;
+        return words(pc(), word).run(1);
     }
 
-    /** A program at a place, done for as many steps as it has words. */
-    Rig program(int pc, int mode, int... words) {
-        words(pc, words);
-        place(pc, mode);
-        host.run(words.length);
-        return this;
+    /** In S, the FIRMWARE is called. */
+    Rig call(int x17, int x10, int x11) {
+        return register(17, x17).register(10, x10).register(11, x11).step(Asm.ECALL);
     }
 
-    int get(int n) {
-        return host.register(n);
+    int x(int n) {
+        return host().register(n);
     }
 
     int told(int number) {
-        return host.control(number);
+        return host().control(number);
+    }
+
+    int hstatus() {
+        return told(HSTATUS);
+    }
+
+    int word(int address) {
+        return host().word(address);
+    }
+
+    int count(int what) {
+        return host().count(what);
     }
 
     int mode() {
-        return host.count(0);
+        return count(0);
     }
 
     int pc() {
-        return host.count(1);
+        return count(1);
     }
 }

@@ -6,31 +6,62 @@ public final class RoomTest {
     private static final ThreadMXBean THREADS = (ThreadMXBean) ManagementFactory.getThreadMXBean();
     private static final long LITTLE = 100_000;
 
+    private RoomTest() {
+    }
+
     public static void main(String[] args) {
         Checks checks = new Checks();
-        Rig rig = new Rig().control(Rig.TVEC, 64).control(Rig.HEDELEG, 4).control(Rig.HSTATUS, 1 << 7);
-        rig.words(64, Asm.SRET).control(Rig.EPC, 4096).words(4096, Asm.store(2, 5, 0, 128), 0).place(4096, Rig.U);
-        rig.host.run(2000);
+        steps(checks);
+        calls(checks);
+        newObjects(checks);
+        checks.finish();
+    }
+
+    /** A guest's illegal word goes to its VS, whose own goes to S, and S goes back to the guest. */
+    private static void steps(Checks checks) {
+        HyperHost host = new HyperHost();
+        host.setControl(Rig.TVEC, 64);
+        host.setControl(Rig.VTVEC, 128);
+        host.setControl(Rig.HEDELEG, 4);
+        host.poke(64, Asm.control(5, 0, Rig.STATUS, 0), Asm.upper(55, 5, 4096), Asm.control(1, 0, Rig.EPC, 5), Asm.SRET,
+            0);
+        host.poke(128, Asm.store(2, 6, 0, 256), Asm.ECALL, 0, 0, 0);
+        host.poke(4096, Asm.load(2, 6, 0, 256), 0, 0, 0, 0);
+        host.place(4096, Rig.VU);
+        host.run(2000);
         long before = allocated();
         for (int call = 0; call < 400; call++) {
-            rig.host.run(2000);
+            host.run(2000);
         }
         checks.due("steps make little", allocated() - before < LITTLE ? 1 : 0, 1);
-        checks.due("and were done", rig.host.count(2), 401 * 2000);
+        checks.due("they were done", host.count(2), 401 * 2000);
+        checks.due("with traps to S", host.count(4) > 50_000 ? 1 : 0, 1);
+        checks.due("with traps to VS", host.count(5) > 50_000 ? 1 : 0, 1);
+    }
 
-        before = allocated();
-        for (int call = 0; call < 400; call++) {
-            rig.host.begin();
-            rig.host.poke(4096, 1, 2, 3, 4, 5);
-            rig.host.sum(0, 64);
+    private static void calls(Checks checks) {
+        HyperHost host = new HyperHost();
+        host.poke(4096, 1, 2, 3, 4, 5);
+        long before = allocated();
+        for (int call = 0; call < 100; call++) {
+            host.begin();
+            host.poke(4096, 1, 2, 3, 4, 5);
+            host.sum(0, 64);
+            host.setControl(Rig.SCRATCH, call);
+            host.word(-4);
         }
         checks.due("calls make little", allocated() - before < LITTLE ? 1 : 0, 1);
+    }
 
-        before = allocated();
-        HyperHost host = new HyperHost();
-        checks.due("a new object is little", allocated() - before < LITTLE ? 1 : 0, 1);
-        checks.due("and answers", host.count(0), 1);
-        checks.finish();
+    private static void newObjects(Checks checks) {
+        new HyperHost().run(1);
+        long before = allocated();
+        int modes = 0;
+        for (int i = 0; i < 20; i++) {
+            modes += new HyperHost().count(0);
+        }
+        checks.due("new objects are little", allocated() - before < LITTLE ? 1 : 0, 1);
+        checks.due("and answer", modes, 20);
     }
 
     private static long allocated() {
