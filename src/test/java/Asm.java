@@ -45,8 +45,8 @@ final class Asm {
     }
 
     static int jump(int d, int offset) {
-        int upper = offset & 0xff000 | (offset >> 11 & 1) << 20 | (offset >> 1 & 0x3ff) << 21 | (offset >> 20 & 1) << 31;
-        return 111 | d << 7 | upper;
+        int lower = (offset >> 11 & 1) << 20 | (offset >> 1 & 0x3ff) << 21;
+        return 111 | d << 7 | offset & 0xff000 | lower | (offset >> 20 & 1) << 31;
     }
 
     static int jumpTo(int d, int a, int offset) {

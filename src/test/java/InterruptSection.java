@@ -15,6 +15,7 @@ final class InterruptSection extends Section {
         forVs();
         whenForVs();
         orderForVs();
+        oneAfterAnother();
         raisedByItself();
     }
 
@@ -167,6 +168,23 @@ final class InterruptSection extends Section {
             Rig rig = oneRaised(Rig.VU, -1).control(Rig.HIDELEG, -1).control(Rig.HVIP, raised);
             comes("raised " + raised, rig, -1, first - 1);
         }
+    }
+
+    /** An interrupt for VS leaves nothing to the next one, which is for S; nor does an exception. */
+    private void oneAfterAnother() {
+        Rig rig = passed(Rig.VU, 10).control(Rig.IE, 0x200).control(Rig.HEDELEG, 4).run(1);
+        due("the first is for VS", rig.told(Rig.VCAUSE), Rig.INTERRUPT | 9);
+        rig.line(true).run(1);
+        due("the second is for S", rig.told(Rig.CAUSE), Rig.INTERRUPT | 9);
+        due("its mode", rig.mode(), Rig.S);
+        due("traps to VS", rig.count(5), 1);
+        rig.line(false).place(AT, Rig.VU).run(1);
+        due("the third is for VS", rig.count(5), 2);
+        rig.control(Rig.HVIP, 0).place(AT, Rig.VU).step(0);
+        due("an exception for VS", rig.told(Rig.VCAUSE), ILLEGAL);
+        rig.line(true).place(AT, Rig.VU).run(1);
+        due("the last is for S", rig.count(4), 2);
+        due("four interrupts", rig.count(6), 4);
     }
 
     /** VS raises its own by IP, and clears it. */

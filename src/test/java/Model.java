@@ -538,7 +538,8 @@ final class Model {
         boolean sum = bit(kind + Rig.STATUS, 18) && ask != Ask.FETCH;
         boolean mxr = bit(Rig.STATUS, 19) || virtual && bit(Rig.VSTATUS, 19);
         IntPredicate mayUse = leaf -> user ? has(leaf, 4) : sum || !has(leaf, 4);
-        LongUnaryOperator entries = place -> virtual ? second(ask, address, place, true) : inMemory(ask, address, place);
+        LongUnaryOperator entries =
+            place -> virtual ? second(ask, address, place, true) : inMemory(ask, address, place);
         long result = from;
         if (bit(kind + Rig.ATP, 31)) {
             long root = controls.get(kind + Rig.ATP) & (1 << 22) - 1;

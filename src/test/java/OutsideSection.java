@@ -292,6 +292,8 @@ final class OutsideSection extends Section {
         says("0, changing nothing: there is none.");
         for (int n : new int[] {-1, 32, 33, 64, LEAST, MOST, -32}) {
             due("setRegister(" + n + ")", host.setRegister(n, 5), 0);
+            due("setRegister(" + n + ") again", host.setRegister(n, 6), 0);
+            due("register(" + n + ")", host.register(n), 0);
         }
         for (int n = 0; n < 32; n++) {
             due("register(" + n + ") stays", host.register(n), n == 0 ? 0 : MOST - n);
@@ -354,10 +356,11 @@ final class OutsideSection extends Section {
     private void badControls() {
         says("BAD: there is none,");
         int[] none = noNumbers();
-        for (int from = 0; from < none.length; from += 400) {
+        for (int from = 0; from < none.length; from += 200) {
             HyperHost host = new HyperHost();
-            for (int i = from; i < from + 400 && i < none.length; i++) {
+            for (int i = from; i < from + 200 && i < none.length; i++) {
                 due("setControl(" + none[i] + ")", host.setControl(none[i], -1), -1);
+                due("control(" + none[i] + ")", host.control(none[i]), 0);
             }
             asAtFirst("behind bad ones", host);
         }

@@ -309,8 +309,15 @@ final class SystemSection extends Section {
             outcome("VU", Rig.in(Rig.VU).control(Rig.HSTATUS, hstatus), Asm.SRET, VIRTUAL);
             outcome("U", Rig.in(Rig.U).control(Rig.HSTATUS, hstatus), Asm.SRET, ILLEGAL);
         }
-        Rig rig = Rig.in(Rig.VU).control(Rig.VSTATUS, Rig.PP | Rig.PIE).step(Asm.SRET);
-        due("VS STATUS stays", rig.told(Rig.VSTATUS), Rig.PP | Rig.PIE);
+        int[] told = {0, 0, Rig.SPV, Rig.SPV | Rig.SPVP};
+        for (int mode : new int[] {Rig.U, Rig.VU, Rig.VS}) {
+            int status = Rig.PP | Rig.PIE;
+            Rig rig = Rig.in(mode).control(Rig.STATUS, status).control(Rig.VSTATUS, status).control(Rig.EPC, 64);
+            rig.control(Rig.VEPC, 64).control(Rig.HSTATUS, Rig.VTSR | Rig.SPV).step(Asm.SRET);
+            due("VS STATUS stays in " + mode, rig.told(Rig.VSTATUS), status);
+            due("STATUS is a trap's in " + mode, rig.told(Rig.STATUS), mode == Rig.VS ? Rig.PP : 0);
+            due("HSTATUS is a trap's in " + mode, rig.hstatus(), Rig.VTSR | told[mode]);
+        }
     }
 
     /** In all modes: fine in S, virtual in VU, illegal in U, and in VS by whether it is barred. */

@@ -258,17 +258,16 @@ final class TranslationSection extends Section {
     private void noSecondLeaf() {
         says("the second one is no leaf;");
         for (Tables.Touch touch : TOUCHES) {
-            // A third table that would do stands ready.
-            int[] third = {leaf(ALL | USER), leaf(ALL | USER)};
-            touch("S", touch, ofS(entry(SPARE, V)).words(Tables.place(SPARE, 0), third)
-                .words(Tables.place(SPARE, 5), third), touch.fault);
-            Rig rig = ofVs(entry(SPARE, V), 0).words(Tables.place(SPARE, 0), third)
-                .words(Tables.place(SPARE, 5), third);
-            touch("VS", touch, rig, touch.fault);
-            rig = ofVs(0, entry(SPARE, V)).words(Tables.place(SPARE, 0), third).words(Tables.place(SPARE, 5), third);
-            touch("second stage", touch, rig, touch.second);
+            touch("S", touch, withThird(ofS(entry(SPARE, V)), leaf(ALL)), touch.fault);
+            touch("VS", touch, withThird(ofVs(entry(SPARE, V), 0), leaf(ALL)), touch.fault);
+            touch("second stage", touch, withThird(ofVs(0, entry(SPARE, V)), leaf(ALL | USER)), touch.second);
             touch("with A and D", touch, ofS(entry(FRAME, V | A | D)), touch.fault);
         }
+    }
+
+    /** A third table that would do stands ready. */
+    private static Rig withThird(Rig rig, int leaf) {
+        return rig.words(Tables.place(SPARE, 0), leaf).words(Tables.place(SPARE, 5), leaf);
     }
 
     private void badLargeLeaves() {
@@ -349,6 +348,12 @@ final class TranslationSection extends Section {
         Rig rig = ofS(entry(63, ALL)).words(Rig.MEMORY - 4, Tables.SEEN).register(6, PAGE + 4092);
         touchAt("memory's last word", LOAD, rig, FINE, Rig.MEMORY - 4);
         touchAt("behind memory", LOAD, ofS(entry(64, ALL)), 5, 0);
+        for (Tables.Touch touch : TOUCHES) {
+            touchAt("memory's first word", touch, ofS(entry(0, ALL)).words(0, Tables.SEEN), FINE, 0);
+            touchAt("memory's first word in VS", touch, ofVs(entry(0, ALL), 0).words(0, Tables.SEEN), FINE, 0);
+            rig = ofVs(0, entry(0, ALL | USER)).words(0, Tables.SEEN);
+            touchAt("memory's first word by the second stage", touch, rig, FINE, 0);
+        }
     }
 
     private void largeResults() {
@@ -548,15 +553,30 @@ final class TranslationSection extends Section {
                 touch("the second alone", touch, Tables.guest(mode, 0, leaf(ALL | USER)), FINE);
             }
             // The guest's tables seem to stand elsewhere than they do.
-            Rig rig = ofVs(middle(ALL), leaf(ALL | USER)).words(Tables.place(Tables.H_TABLE, 40),
-                entry(Tables.VS_ROOT, V | R | A | USER), entry(Tables.VS_TABLE, V | R | A | USER));
+            Rig rig = ofVs(middle(ALL), leaf(ALL | USER));
+            rig.words(Tables.place(Tables.H_TABLE, 40), toTable(Tables.VS_ROOT), toTable(Tables.VS_TABLE));
             rig.words(Tables.place(Tables.VS_ROOT, 0), entry(41, V)).control(Rig.VATP, ON | 40);
             touch("entries elsewhere", touch, rig, FINE);
+            int second = leaf(ALL | USER);
+            rig = ofVs(0, second).words(Tables.place(Tables.H_TABLE, 0), second).register(6, 0);
+            touch("the address 0", touch, rig, FINE);
+            rig = ofVs(entry(0, ALL), second).words(Tables.place(Tables.H_TABLE, 0), second);
+            touch("the result 0", touch, rig, FINE);
+            rig = ofVs(middle(ALL), second).words(Tables.place(Tables.H_TABLE, 0), toTable(Tables.VS_ROOT));
+            touch("an entry's place 0", touch, rig.control(Rig.VATP, ON), FINE);
+            rig = ofVs(middle(ALL), second).words(Tables.place(Tables.H_TABLE, 40), toTable(0));
+            rig.words(0, entry(Tables.VS_TABLE, V)).control(Rig.VATP, ON | 40);
+            touch("an entry at memory's first word", touch, rig, FINE);
             rig = ofVs(middle(ALL), leaf(ALL | USER)).words(Tables.place(Tables.H_TABLE, Tables.VS_ROOT), 0);
             touch.step(rig);
             due("the first entry's place: CAUSE", rig.told(Rig.CAUSE), 20);
             due("the first entry's place: HTVAL", rig.told(Rig.HTVAL), Tables.place(Tables.VS_ROOT, 0) / 4);
         }
+    }
+
+    /** The second stage's leaf to a table of the first stage. */
+    private static int toTable(int frame) {
+        return entry(frame, V | R | A | USER);
     }
 
     private void withoutSecondStage() {
@@ -568,6 +588,8 @@ final class TranslationSection extends Section {
                 rig = ofVs(0, 0).control(Rig.HGATP, hgatp).words(PAGE, Tables.SEEN);
                 touchAt("none", touch, rig, FINE, PAGE);
             }
+            Rig atFirst = ofVs(leaf(ALL), 0).words(0, entry(Tables.VS_TABLE, V)).control(Rig.VATP, ON);
+            touch("a root of 0", touch, atFirst, FINE);
             touchAt("a result behind memory", touch, ofVs(entry(64, ALL), 0), touch.outside, 0);
             touchAt("a result of 34 bits", touch, ofVs(entry(0x100000 | FRAME, ALL), 0), touch.outside, PLACE);
         }
@@ -584,7 +606,9 @@ final class TranslationSection extends Section {
             touch("a root of bit " + n, FETCH, rig.control(Rig.HGATP, ON | 1 << n), n < 6 ? FINE : 1);
         }
         touch("two 0", LOAD, ofVs(0, leaf(ALL | USER)).control(Rig.HGATP, ON | Tables.H_ROOT | 3), FINE);
-        Rig rig = ofVs(middle(ALL), leaf(ALL | USER)).words(Tables.place(Tables.VS_ROOT, 1), 0xfff00000 | ALL);
+        Rig rig = ofVs(0, 0).words(0, ALL | USER).control(Rig.HGATP, ON).register(6, PLACE);
+        touch("memory's first word is the entry", FETCH, rig, FINE);
+        rig = ofVs(middle(ALL), leaf(ALL | USER)).words(Tables.place(Tables.VS_ROOT, 1), 0xfff00000 | ALL);
         rig.words(Tables.place(60, 0), entry(Tables.H_TABLE, V)).words(Rig.MEMORY - 4, ALL | USER);
         touch("memory's last word is the entry", LOAD, rig.control(Rig.HGATP, ON | 60).register(6, 0x400000 | PLACE),
             FINE);

@@ -107,6 +107,7 @@ final class TrapSection extends Section {
         String what = number + " from " + mode + " with HEDELEG " + hedeleg;
         due(what + ": traps to VS", rig.count(5), down ? 1 : 0);
         due(what + ": traps to S", rig.count(4), down ? 0 : 1);
+        due(what + ": interrupts", rig.count(6), 0);
         due(what + ": VS CAUSE", rig.told(Rig.VCAUSE), down ? number : Rig.NO_TRAP);
         due(what + ": CAUSE", rig.told(Rig.CAUSE), down ? Rig.NO_TRAP : number);
         due(what + ": mode", rig.mode(), down ? Rig.VS : Rig.S);
@@ -180,7 +181,12 @@ final class TrapSection extends Section {
             due("it stays from S", before(Rig.S, 2).control(Rig.HSTATUS, before).run(1).hstatus() & Rig.SPVP, before);
         }
         int others = Rig.HU | Rig.VTVM | Rig.VTW | Rig.VTSR;
-        due("other bits stay", before(Rig.U, 2).control(Rig.HSTATUS, others).run(1).hstatus(), others);
+        int[] told = {0, 0, Rig.SPV, Rig.SPV | Rig.SPVP};
+        for (int mode = 0; mode < 4; mode++) {
+            due("all of it from " + mode, before(mode, 2).run(1).hstatus(), told[mode]);
+            Rig rig = before(mode, 2).control(Rig.HSTATUS, others).run(1);
+            due("other bits stay from " + mode, rig.hstatus(), others | told[mode]);
+        }
     }
 
     private void secondStageAddress() {
