@@ -311,6 +311,16 @@ final class ControlSection extends Section {
         }
     }
 
+    /** That TIMEs can be read, for what they are, and not written. */
+    private void timesIn(int mode, int hstatus) {
+        access(mode, hstatus, Rig.TIME, Rig.NO_TRAP, ILLEGAL);
+        access(mode, hstatus, Rig.TIME_UPPER, Rig.NO_TRAP, ILLEGAL);
+        Rig rig = Rig.in(mode).control(Rig.HSTATUS, hstatus).step(Asm.NOP).step(Asm.control(2, 5, Rig.TIME, 0));
+        due("TIME in " + mode, rig.x(5), 1);
+        rig.register(5, 7).step(Asm.control(2, 5, Rig.TIME_UPPER, 0));
+        due("its upper bits in " + mode, rig.x(5), 0);
+    }
+
     private void accessToNone() {
         says("ACCESS: of a number that is none of these, or a write of 0xc01, 0xc81: illegal.");
         for (int mode = 0; mode < 4; mode++) {
@@ -345,8 +355,7 @@ final class ControlSection extends Section {
                     access(Rig.U, hstatus, number, ILLEGAL, ILLEGAL);
                 }
             }
-            access(Rig.U, hstatus, Rig.TIME, Rig.NO_TRAP, ILLEGAL);
-            access(Rig.U, hstatus, Rig.TIME_UPPER, Rig.NO_TRAP, ILLEGAL);
+            timesIn(Rig.U, hstatus);
         }
     }
 
@@ -357,8 +366,7 @@ final class ControlSection extends Section {
                 boolean barred = number == Rig.ATP && (hstatus & Rig.VTVM) != 0;
                 access(Rig.VS, hstatus, number, barred ? VIRTUAL : Rig.NO_TRAP, barred ? VIRTUAL : Rig.NO_TRAP);
             }
-            access(Rig.VS, hstatus, Rig.TIME, Rig.NO_TRAP, ILLEGAL);
-            access(Rig.VS, hstatus, Rig.TIME_UPPER, Rig.NO_TRAP, ILLEGAL);
+            timesIn(Rig.VS, hstatus);
         }
     }
 
@@ -374,8 +382,7 @@ final class ControlSection extends Section {
             for (int number : Rig.S_NUMBERS) {
                 access(Rig.VU, hstatus, number, VIRTUAL, VIRTUAL);
             }
-            access(Rig.VU, hstatus, Rig.TIME, Rig.NO_TRAP, ILLEGAL);
-            access(Rig.VU, hstatus, Rig.TIME_UPPER, Rig.NO_TRAP, ILLEGAL);
+            timesIn(Rig.VU, hstatus);
         }
         Rig rig = Rig.in(Rig.VS).control(Rig.HGATP, 0).register(6, 77).step(Asm.control(1, 6, Rig.HTVAL, 6));
         due("nothing is written", rig.told(Rig.HTVAL), 0);

@@ -238,6 +238,12 @@ final class TranslationSection extends Section {
                 touch("the second stage's leaf", touch, rig, touch.second);
                 touch("the first stage's leaf", touch, ofVs(leaf(flags), 0).control(Rig.STATUS, Rig.MXR), touch.fault);
             }
+            // Without A and D it is no table, either.
+            touch("W alone", touch, withFirst(entry(Tables.S_TABLE, V | W)), touch.fault);
+            Rig rig = ofVs(leaf(ALL), 0).words(Tables.place(Tables.VS_ROOT, 1), entry(Tables.VS_TABLE, V | W));
+            touch("W alone, VS", touch, rig.register(6, 0x400000 | PAGE), touch.fault);
+            rig = ofVs(0, leaf(ALL | USER)).words(Tables.place(Tables.H_ROOT, 1), entry(Tables.H_TABLE, V | W));
+            touch("W alone, second stage", touch, rig.register(6, 0x400000 | PAGE), touch.second);
         }
     }
 
@@ -441,6 +447,7 @@ final class TranslationSection extends Section {
             Rig rig = ofS(leaf(ALL | USER)).control(Rig.STATUS, Rig.SUM);
             touch("set, SUM", touch, rig, touch == FETCH ? 12 : FINE);
             touch("set, SUM of VS", touch, ofS(leaf(ALL | USER)).control(Rig.VSTATUS, Rig.SUM), touch.fault);
+            touch("set, all but SUM", touch, ofS(leaf(ALL | USER)).control(Rig.STATUS, ~Rig.SUM), touch.fault);
         }
     }
 
@@ -452,6 +459,7 @@ final class TranslationSection extends Section {
             touch("X", LOAD, Tables.oneStage(mode, leaf(onlyX | user)), 13);
             touch("X, MXR", LOAD, Tables.oneStage(mode, leaf(onlyX | user)).control(Rig.STATUS, Rig.MXR), FINE);
             touch("X, MXR of VS", LOAD, Tables.oneStage(mode, leaf(onlyX | user)).control(Rig.VSTATUS, Rig.MXR), 13);
+            touch("X, all but MXR", LOAD, Tables.oneStage(mode, leaf(onlyX | user)).control(Rig.STATUS, ~Rig.MXR), 13);
             Rig rig = Tables.oneStage(mode, leaf(onlyX & ~A | user)).control(Rig.STATUS, Rig.MXR);
             touch("X without A, MXR", LOAD, rig, 13);
             rig = Tables.oneStage(mode, leaf(onlyX | D | user)).control(Rig.STATUS, Rig.MXR);
@@ -483,6 +491,7 @@ final class TranslationSection extends Section {
             touch("VS, set, SUM", touch, ofVs(leaf(ALL | USER), 0).control(Rig.VSTATUS, Rig.SUM), withSum);
             touch("VS, clear, SUM", touch, ofVs(leaf(ALL), 0).control(Rig.VSTATUS, Rig.SUM), FINE);
             touch("VS, set, SUM of S", touch, ofVs(leaf(ALL | USER), 0).control(Rig.STATUS, Rig.SUM), touch.fault);
+            touch("VS, set, all but SUM", touch, ofVs(leaf(ALL | USER), 0).control(Rig.VSTATUS, ~Rig.SUM), touch.fault);
             touch("S's ATP does not count", touch, ofVs(leaf(ALL), 0).control(Rig.ATP, ON | 63), FINE);
             for (int mode : GUESTS) {
                 Rig rig = Tables.guest(mode, leaf(ALL), 0).control(Rig.VATP, Tables.VS_ROOT).words(PAGE, Tables.SEEN);
@@ -501,6 +510,8 @@ final class TranslationSection extends Section {
             touch("S's", LOAD, Tables.guest(mode, first, 0).control(Rig.STATUS, Rig.MXR), FINE);
             Rig rig = Tables.guest(mode, first, 0).control(Rig.STATUS, Rig.MXR).control(Rig.VSTATUS, Rig.MXR);
             touch("both", LOAD, rig, FINE);
+            rig = Tables.guest(mode, first, 0).control(Rig.STATUS, ~Rig.MXR).control(Rig.VSTATUS, ~Rig.MXR);
+            touch("all but these", LOAD, rig, 13);
             touch("stores", STORE, Tables.guest(mode, first | D, 0).control(Rig.VSTATUS, Rig.MXR), 15);
         }
     }
@@ -659,6 +670,7 @@ final class TranslationSection extends Section {
             touch("without", LOAD, Tables.guest(mode, 0, second), 21);
             touch("of S", LOAD, Tables.guest(mode, 0, second).control(Rig.STATUS, Rig.MXR), FINE);
             touch("of VS", LOAD, Tables.guest(mode, 0, second).control(Rig.VSTATUS, Rig.MXR), 21);
+            touch("all but it", LOAD, Tables.guest(mode, 0, second).control(Rig.STATUS, ~Rig.MXR), 21);
             touch("stores", STORE, Tables.guest(mode, 0, second | D).control(Rig.STATUS, Rig.MXR), 23);
         }
         touch("X twice, of VS", LOAD, ofVs(middle(V | X | A), second).control(Rig.VSTATUS, Rig.MXR), 21);
